@@ -41,6 +41,7 @@ public final class PatternTest {
         LoomDesk x = new LoomDesk();
         Check.due("type 0", x.type(Check.word("h1"), 0), false);
         Check.due("type 9", x.type(Check.word("h1"), 9), false);
+        Check.due("type 9 of good bytes", x.type(Check.word("h1h2h3h4"), 9), false);
         Check.due("type -1", x.type(Check.word("h1"), -1), false);
         Check.due("type min", x.type(Check.word("h1"), Integer.MIN_VALUE), false);
         Check.due("type max", x.type(Check.word("h1"), Integer.MAX_VALUE), false);
