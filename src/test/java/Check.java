@@ -7,8 +7,14 @@ final class Check {
 
     private static int asked = 0;
     private static int wrong = 0;
+    private static String sentence = "";
 
     private Check() {
+    }
+
+    /** The words of the document that the answers behind this one are asked for. */
+    static void sentence(String words) {
+        sentence = words;
     }
 
     static void due(String call, long got, long want) {
@@ -31,7 +37,8 @@ final class Check {
         asked++;
         if (!right) {
             wrong++;
-            System.out.println(call + " answered " + got + ", due is " + want);
+            String words = sentence.isEmpty() ? "" : "[" + sentence + "] ";
+            System.out.println(words + call + " answered " + got + ", due is " + want);
         }
     }
 
@@ -72,6 +79,18 @@ final class Check {
     static int compile(LoomDesk desk, String text) {
         type(desk, text);
         return desk.compile();
+    }
+
+    /** That a text is no pattern, and where. */
+    static void fault(String text, int place) {
+        LoomDesk desk = new LoomDesk();
+        due("compile of '" + text + "'", compile(desk, text), place + 1);
+        due("length behind '" + text + "'", desk.length(), 0);
+    }
+
+    /** That a text is a pattern, and of how many picks. */
+    static void good(String text, long length) {
+        due("length of '" + text + "'", desk(text).length(), length);
     }
 
     /** A new desk with a pattern. */

@@ -1,11 +1,15 @@
 /**
- * All promises: long runs of calls, the same ones every time, on a desk and on the model
- * beside it. No answer may differ, and none may throw what the document does not name.
+ * All promises: runs of calls, the same ones every time, on a desk and on the model beside
+ * it. No answer may differ, and none may throw what the document does not name. No desk is
+ * asked more than 512 times: what it answers then is free.
  */
 public final class ModelTest {
     private static final int TEXTS = 60000;
-    private static final int RUNS = 1500;
-    private static final int CALLS = 500;
+    private static final int MOST_DESIGNS = 70;
+    private static final int RUNS = 15000;
+    // A step has nine calls at the most.
+    private static final int STEPS = 50;
+    private static final int ENOUGH = RUNS / 4;
 
     private static long seed = 20261116;
 
@@ -14,6 +18,7 @@ public final class ModelTest {
     private static int breaks;
     private static int recalled;
     private static int thrown;
+    private static int full;
 
     public static void main(String[] args) {
         for (int i = 0; i < TEXTS; i++) {
@@ -24,9 +29,10 @@ public final class ModelTest {
         for (int i = 0; i < RUNS; i++) {
             loomRun();
         }
-        Check.due("enough breaks", breaks > RUNS, true);
-        Check.due("enough places other than 0 from a record", recalled > RUNS, true);
-        Check.due("enough exceptions", thrown > RUNS, true);
+        Check.due("enough breaks", breaks > ENOUGH, true);
+        Check.due("enough places other than 0 from a record", recalled > ENOUGH, true);
+        Check.due("enough exceptions", thrown > ENOUGH, true);
+        Check.due("enough of the cloths are full", full > ENOUGH, true);
         Check.end();
     }
 
@@ -95,8 +101,9 @@ public final class ModelTest {
             patterns += want == 0 && i == 0 ? 1 : 0;
             Check.due("compile of '" + text + "'", x.compile(), want);
             Check.due("length of '" + text + "'", x.length(), m.size.longValue());
-            for (int p = -1; p <= m.picks.size() && !m.picks.isEmpty(); p++) {
-                design(x, m, p, text);
+            int all = m.picks.isEmpty() ? 0 : m.picks.size() + 2;
+            for (int p = 0; p < Math.min(all, MOST_DESIGNS); p++) {
+                design(x, m, (all > MOST_DESIGNS ? pick(all) : p) - 1, text);
             }
         }
     }
@@ -112,9 +119,23 @@ public final class ModelTest {
     private static void loomRun() {
         LoomDesk x = new LoomDesk();
         Model m = new Model();
-        for (int i = 0; i < CALLS; i++) {
-            call(x, m);
+        compile(x, m);
+        // Without runs that weave for the most part hardly a cloth would come to its bound.
+        int weaves = pick(4) == 0 ? 4 : 0;
+        for (int i = 0; i < STEPS; i++) {
+            if (pick(5) < weaves) {
+                start(x, m);
+                turn(x, m, 3600 - pick(2000) / 8.0);
+            } else {
+                call(x, m);
+            }
             look(x, m);
+        }
+        for (int what = 0; what < 9; what++) {
+            state(x, m, what);
+        }
+        for (int i = 60; i < 65; i++) {
+            cloth(x, m, i, pick(3));
         }
     }
 
@@ -123,7 +144,7 @@ public final class ModelTest {
             case 0 -> compile(x, m);
             case 1, 2, 3 -> start(x, m);
             case 4 -> Check.due("stop", x.stop(), m.brake());
-            case 5, 6, 7, 8 -> turn(x, m);
+            case 5, 6, 7, 8 -> turn(x, m, degrees(3600));
             case 9 -> back(x, m);
             case 10 -> weft(x, m);
             case 11 -> findPick(x, m);
@@ -170,8 +191,7 @@ public final class ModelTest {
         }
     }
 
-    private static void turn(LoomDesk x, Model m) {
-        double d = degrees(3600);
+    private static void turn(LoomDesk x, Model m, double d) {
         String got = Check.outcome(() -> x.turn(d));
         if (!m.power || m.mode == 0) {
             thrown++;
@@ -270,24 +290,31 @@ public final class ModelTest {
         }
     }
 
+    /** Three calls, others each time. */
     private static void look(LoomDesk x, Model m) {
-        Check.due("angle", x.angle(), m.angle / 16.0);
-        Check.due("left", x.left(), m.mode == 2 ? m.left / 16.0 : 0);
-        Check.due("length", x.length(), m.picks.size());
+        full += m.inMind == 64 ? 1 : 0;
+        state(x, m, pick(9));
+        long[] counts = {m.place, m.cloth.size(), m.turns, -1};
+        int which = pick(counts.length);
+        Check.due("count " + which, x.count(which), counts[which]);
+        switch (pick(4)) {
+            case 0 -> Check.due("angle", x.angle(), m.angle / 16.0);
+            case 1 -> Check.due("left", x.left(), m.mode == 2 ? m.left / 16.0 : 0);
+            case 2 -> Check.due("length", x.length(), m.picks.size());
+            default -> cloth(x, m, pick(70) - 2, pick(4));
+        }
+    }
+
+    private static void state(LoomDesk x, Model m, int what) {
         int[] states = {m.mode, m.shed, m.carrier, m.broken ? 2 : m.in ? 1 : 0, m.missed, m.orders,
             (int) Math.floor(m.takenUp()), m.power ? 1 : 0, -1};
-        for (int what = 0; what < states.length; what++) {
-            Check.due("state " + what, x.state(what), states[what]);
-        }
-        long[] counts = {m.place, m.cloth.size(), m.turns, -1};
-        for (int what = 0; what < counts.length; what++) {
-            Check.due("count " + what, x.count(what), counts[what]);
-        }
-        int i = pick(70) - 2;
+        Check.due("state " + what, x.state(what), states[what]);
+    }
+
+    private static void cloth(LoomDesk x, Model m, int i, int what) {
         boolean known = i >= 0 && i < m.inMind;
         Model.Pick p = known ? m.cloth.get(m.cloth.size() - 1 - i) : new Model.Pick(-1, -1, -1);
-        Check.due("cloth " + i + " 0", x.cloth(i, 0), p.lift());
-        Check.due("cloth " + i + " 1", x.cloth(i, 1), p.carrier());
-        Check.due("cloth " + i + " 2", x.cloth(i, 2), p.density());
+        int[] told = {p.lift(), p.carrier(), p.density(), -1};
+        Check.due("cloth " + i + " " + what, x.cloth(i, what), told[what]);
     }
 }
