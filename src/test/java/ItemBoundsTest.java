@@ -18,6 +18,7 @@ public final class ItemBoundsTest {
         repeats();
         mirrors();
         sixBrackets();
+        fullTapes();
         onePickInBrackets();
         carrierAndDensityAtFirst();
         carrierAndDensityGoOn();
@@ -203,6 +204,42 @@ public final class ItemBoundsTest {
         Check.good("m(m(m(m(m(m(h1)m(h1)h1)))))m(m(m(m(m(m(h1))))))", 160 + 64);
         Check.fault("m(m(m(m(m(m(h1)m(m(h1))))))))", 18);
         Check.good("m(h1)".repeat(32), 64);
+    }
+
+    private static void fullTapes() {
+        Check.sentence("THE TAPE has at most 160 characters (32 .. 126).");
+        StringBuilder text = new StringBuilder();
+        for (int i = 0; i < 80; i++) {
+            text.append('h').append(Integer.toHexString(i % 16));
+        }
+        LoomDesk x = Check.desk(text.toString());
+        for (int p = 0; p <= 80; p++) {
+            Check.due("pick " + p + " of 80", x.design(p, 0), p < 80 ? p % 16 : LoomDesk.NONE);
+        }
+        sixFullBrackets(text.toString());
+    }
+
+    private static void sixFullBrackets(String picks) {
+        LoomDesk y = Check.desk("m(".repeat(6) + picks.substring(0, 142) + ")".repeat(6));
+        LoomDesk z = Check.desk("r2(".repeat(6) + picks.substring(0, 136) + ")".repeat(6));
+        for (int p = 0; p < 71 * 64; p += 13) {
+            sixMirrors(y, p);
+        }
+        // Here all six go backwards.
+        for (int p = 3040; p < 3060; p++) {
+            sixMirrors(y, p);
+        }
+        sixMirrors(y, 71 * 64 - 1);
+        for (int p = 7; p < 68 * 64; p += 10) {
+            Check.due("pick " + p + " of six repeats", z.design(p, 0), p % 68 % 16);
+        }
+        Check.due("behind the last", y.design(71 * 64, 0), LoomDesk.NONE);
+        Check.due("behind the last", z.design(68 * 64, 0), LoomDesk.NONE);
+    }
+
+    private static void sixMirrors(LoomDesk y, int p) {
+        int once = p % 142 < 71 ? p % 142 : 141 - p % 142;
+        Check.due("pick " + p + " of six mirrors", y.design(p, 0), once % 16);
     }
 
     private static void onePickInBrackets() {
