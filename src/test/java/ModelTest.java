@@ -1,10 +1,12 @@
 /**
- * All promises: runs of calls, the same ones every time, on a desk and on the model beside
- * it. No answer may differ, and none may throw what the document does not name. No desk is
- * asked more than 512 times: what it answers then is free.
+ * All promises: runs of calls, the same ones every time, and every short text of some signs,
+ * on a desk and on the model beside it. No answer may differ, and none may throw what the
+ * document does not name. No desk is asked more than 512 times: what it answers then is free.
  */
 public final class ModelTest {
     private static final int TEXTS = 60000;
+    private static final String SIGNS = "hcdrm()0128 f";
+    private static final int MOST_SIGNS = 4;
     private static final int MOST_DESIGNS = 70;
     private static final int RUNS = 15000;
     // A step has nine calls at the most.
@@ -26,6 +28,10 @@ public final class ModelTest {
         }
         Check.due("enough of the texts are patterns", patterns > TEXTS / 5, true);
         Check.due("enough of the texts are none", patterns < TEXTS * 4 / 5, true);
+        String[] heads = {"", "r2(h1", "m(c1h1", "h12345", "r000", "d0002", "m(m(m(m(m(m(h1", "m(m(m(m(m("};
+        for (String head : heads) {
+            everyText(head, MOST_SIGNS - (head.isEmpty() ? 0 : 1));
+        }
         for (int i = 0; i < RUNS; i++) {
             loomRun();
         }
@@ -94,18 +100,30 @@ public final class ModelTest {
         LoomDesk x = new LoomDesk();
         Model m = new Model();
         for (int i = 0; i < 2; i++) {
-            String text = mutated(items(0));
-            m.tape = text;
-            Check.type(x, text);
-            int want = m.compile();
-            patterns += want == 0 && i == 0 ? 1 : 0;
-            Check.due("compile of '" + text + "'", x.compile(), want);
-            Check.due("length of '" + text + "'", x.length(), m.size.longValue());
-            int all = m.picks.isEmpty() ? 0 : m.picks.size() + 2;
-            for (int p = 0; p < Math.min(all, MOST_DESIGNS); p++) {
-                design(x, m, (all > MOST_DESIGNS ? pick(all) : p) - 1, text);
-            }
+            int answer = read(x, m, mutated(items(0)));
+            patterns += answer == 0 && i == 0 ? 1 : 0;
         }
+    }
+
+    /** The text, and with every one of the signs behind it, and with every two .. */
+    private static void everyText(String text, int more) {
+        read(new LoomDesk(), new Model(), text);
+        for (int i = 0; i < SIGNS.length() && more > 0; i++) {
+            everyText(text + SIGNS.charAt(i), more - 1);
+        }
+    }
+
+    private static int read(LoomDesk x, Model m, String text) {
+        m.tape = text;
+        Check.type(x, text);
+        int want = m.compile();
+        Check.due("compile of '" + text + "'", x.compile(), want);
+        Check.due("length of '" + text + "'", x.length(), m.size.longValue());
+        int all = m.picks.isEmpty() ? 0 : m.picks.size() + 2;
+        for (int p = 0; p < Math.min(all, MOST_DESIGNS); p++) {
+            design(x, m, (all > MOST_DESIGNS ? pick(all) : p) - 1, text);
+        }
+        return want;
     }
 
     private static void design(LoomDesk x, Model m, int p, String text) {
